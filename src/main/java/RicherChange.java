@@ -176,7 +176,8 @@ public final class RicherChange {
             return OUTSIDE;
         }
         trial.likeThat(town);
-        for (int v = 0; v <= town.land[h]; v++) {
+        int most = town.land[h];
+        for (int v = 0; v <= most; v++) {
             if (!trial.isPointedAt(h, cost)) {
                 return v;
             }
@@ -548,7 +549,8 @@ public final class RicherChange {
         }
 
         int wealthWhenPaid(int h, int cost) {
-            return Math.max(0, wealth(h) - cost);
+            int left = land[h] + coin[h] - cost;
+            return left > 0 ? left : 0;
         }
 
         int worthOf(int h) {

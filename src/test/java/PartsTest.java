@@ -81,6 +81,7 @@ final class PartsTest {
         Due.due("kind -1", x.as(0, -1), OUTSIDE);
         Due.due("fault()", x.fault(), 0);
         Due.due("kind 3", x.as(2, 3), OUTSIDE);
+        Due.due("kind 9", x.as(0, 9), OUTSIDE);
         Due.due("house -1", x.as(-1, 3), UNKNOWN);
         Due.due("house 3", x.as(3, -1), UNKNOWN);
     }

@@ -9,6 +9,7 @@ final class YearsTest {
         wrongCells();
         wrongYear();
         longestYear();
+        housesOfAnEarlierCityAreGone();
         name();
         safe();
         Due.end();
@@ -109,6 +110,20 @@ final class YearsTest {
         // After 36 of 38 it has nothing, and the least of two who have nothing is the richest.
         Due.due("fair", x.year(9, 0, 0, 0, 20, 3), 20);
         Due.due("land", x.year(9, 0, 0, 0, 20, 10), 0);
+    }
+
+    private static void housesOfAnEarlierCityAreGone() {
+        RicherChange x = Due.of("q;h20;h90;t05;t99;k99;t99");
+        Due.row(x, 0, 0, 5, 5);
+        Due.due("all six", x.year(9, 0, 0, 0, 1, 0), 2 + 9 + 20 + 46 + 23 + 28);
+        Due.due("the sixth pays", x.year(9, 0, 0, 0, 1, 25), 1);
+        Due.due("2 points at 1 of six", x.safe(1, 1), 9);
+        Due.city(x, "q;h20;h90");
+        Due.due("two alone", x.year(1, 0, 0, 0, 0, 0), 11);
+        Due.due("the sixth is no house", x.year(1, 0, 0, 0, 1, 0), UNKNOWN);
+        Due.due("nobody but 0 points at 1", x.safe(1, 1), 7);
+        Due.due("the richest is one of two", x.choice(1, 1, 3), 1);
+        Due.due("nobody else is to be pointed at", x.choice(1, 1, 0), 1);
     }
 
     private static void name() {
