@@ -423,22 +423,32 @@ public final class RicherChange {
         return letter == 'k' ? KIN : HOUSE;
     }
 
-    /** A wrong pair ends the YEAR, so that a cell behind it is not looked at. */
+    /** A row with a cell that is no HOUSE is no YEAR, so all cells are looked at ahead of any FIRST WRONG. */
     private int yearOfPairs(int cost, int sheet, int i, int n, int what) {
+        if (!areHouses(sheet, i, 2 * n)) {
+            return UNKNOWN;
+        }
         int[] row = sheets.rows[sheet];
         told.begin(town);
         for (int pair = 0; pair < n; pair++) {
             int a = row[i + 2 * pair];
             int b = row[i + 2 * pair + 1];
-            if (!town.has(a) || !town.has(b)) {
-                return UNKNOWN;
-            }
             if (a != b && !told.town.mayPoint(a, b)) {
                 return what == Year.FIRST_WRONG ? pair : -100 - pair;
             }
             told.pass(a, b, cost);
         }
         return told.result(what);
+    }
+
+    /** Only for cells without a FAULT. */
+    private boolean areHouses(int sheet, int i, int n) {
+        for (int k = 0; k < n; k++) {
+            if (!town.has(sheets.rows[sheet][i + k])) {
+                return false;
+            }
+        }
+        return true;
     }
 
     /** The numbers below the bound that all READINGS allow in place of what the HOUSE has. */

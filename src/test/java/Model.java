@@ -358,6 +358,9 @@ final class Model {
         need(in(what, 0, 3) || in(what, 10, 15) || in(what, 20, 25), -2);
         need(houses.length > 0, -3);
         int[] cells = taken(sheets[sheet], lane, i, 2 * n);
+        for (int h : cells) {
+            at(h);
+        }
         House[] then = clones(houses);
         int[] paid = new int[6];
         int changes = 0;
@@ -365,8 +368,6 @@ final class Model {
         for (int k = 0; k < n; k++) {
             int a = cells[2 * k];
             int b = cells[2 * k + 1];
-            at(a);
-            at(b);
             if (a != b && then[b].land <= then[a].land) {
                 return what == 1 ? k : -100 - k;
             }

@@ -7,6 +7,7 @@ final class YearsTest {
         year();
         firstWrong();
         wrongCells();
+        noHouseBehindWrong();
         wrongYear();
         longestYear();
         housesOfAnEarlierCityAreGone();
@@ -66,10 +67,45 @@ final class YearsTest {
         Due.due("fault()", x.fault(), 0);
         Due.due("at -1", x.year(1, 0, 2, 4, 1, 1), UNKNOWN);
         Due.due("at 2", x.year(1, 0, 2, 8, 1, 14), UNKNOWN);
-        // Pair by pair: what is wrong first ends it.
-        Due.due("wrong ahead of no house", x.year(1, 0, 2, 6, 2, 0), -100);
+        Due.due("wrong ahead of no house", x.year(1, 0, 2, 6, 2, 0), UNKNOWN);
+        Due.due("wrong alone", x.year(1, 0, 2, 6, 1, 0), -100);
         Due.due("no house ahead of wrong", x.year(1, 0, 2, 4, 2, 0), UNKNOWN);
         Due.fault(x, "beyond ahead of no house", x.year(1, 0, 2, 8, 2, 0), Due.INDEX);
+    }
+
+    /** Whichever cell is no HOUSE, it is no YEAR: a wrong pair ahead of it does not hide that. */
+    private static void noHouseBehindWrong() {
+        int[] what = {0, 1, 2, 3, 10, 11, 15, 20, 21, 25};
+        int[] noHouse = {-1, 2, 127, -128};
+        for (int lane = 0; lane < 3; lane++) {
+            for (int k = 0; k < 40; k++) {
+                RicherChange x = Due.of("q;h12;k43");
+                int[] cells = new int[40];
+                cells[0] = 1;
+                cells[k] = noHouse[k % noHouse.length];
+                Due.row(x, 0, lane, cells);
+                for (int w : what) {
+                    String call = "no house in cell " + k + ", lane " + lane + ", what " + w;
+                    Due.due(call, x.year(1, 0, lane, 0, 20, w), UNKNOWN);
+                    Due.due("fault after " + call, x.fault(), 0);
+                    // Cells behind the row are none of its own.
+                    int before = w == 1 ? 0 : -100;
+                    Due.due("ahead of it: " + call, x.year(1, 0, lane, 0, k / 2, w), k < 2 ? ofNoPair(w) : before);
+                }
+            }
+        }
+    }
+
+    private static int ofNoPair(int what) {
+        switch (what) {
+            case 0: return 3 + 12;
+            case 1: return NONE;
+            case 10: return 1;
+            case 11: return 4;
+            case 15: return NONE;
+            case 25: return NONE;
+            default: return 0;
+        }
     }
 
     private static void wrongYear() {
