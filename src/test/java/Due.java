@@ -3,8 +3,14 @@ final class Due {
     static final int NULL = 1, CAST = 2, INDEX = 3, SIZE = 4;
     private static int wrong = 0;
     private static int asked = 0;
+    private static String sentence = "";
 
     private Due() {
+    }
+
+    /** The sentence of the document that the answers from here on are asked for. */
+    static void sentence(int promise, String words) {
+        sentence = "promise " + promise + ", \"" + words + "\": ";
     }
 
     static void due(String call, long got, long want) {
@@ -12,7 +18,7 @@ final class Due {
         if (got != want) {
             wrong++;
             if (wrong <= 50) {
-                System.out.println(call + " answered " + got + ", due is " + want);
+                System.out.println(sentence + call + " answered " + got + ", due is " + want);
             }
         }
     }
